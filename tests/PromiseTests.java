@@ -89,6 +89,7 @@ public final class PromiseTests {
         passOrder();
         passDrifts();
         passLeaves();
+        passAllFull();
         passRefused();
         count();
         foresee();
@@ -650,6 +651,31 @@ public final class PromiseTests {
         is("place 2 is not", 2, moving.canoe(2, 2));
     }
 
+    private static void passAllFull() {
+        promise = "14 pass, with all rows and canoes that there may be";
+        FloatMarket m = market(6, 1, 1, 6);
+        fill(m, 0, 6);
+        fill(m, 1, 1);
+        fill(m, 2, 1);
+        fill(m, 3, 6);
+        sells(m, 13, 3, 2, 1);
+        buys(m, 12, 3, 1, 1);
+        buys(m, 7, 3, 1, 1);
+        sells(m, 8, 0, 1, 1);
+        buys(m, 7, 0, 1, 1);
+        m.leaveIn(13, 1);
+        m.setWater(1, 9, 0);
+        is("foresee", 1, m.foresee(7, 3, 1));
+        is("pass", 2, m.pass(3));
+        is("the last one sold", 101, m.canoe(13, 0));
+        is("the last one is gone", 2, m.canoe(13, 2));
+        is("castOff from a full row", 5, m.castOff(0));
+        for (int place = 0; place < 6; place++) {
+            is("at(0, " + place + ")", place < 5 ? place + 1 : -1, m.at(0, place));
+        }
+        is("moored are", 12, m.count(3));
+    }
+
     private static void passRefused() {
         promise = "14 pass, wrong inputs";
         FloatMarket m = market(2);
@@ -671,6 +697,7 @@ public final class PromiseTests {
         m.moor(3, 1);
         m.addCanoe(7, 0);
         m.load(4, 2, 6);
+        m.addCanoe(0, 0);
         sells(m, 1, 0, 9, 5);
         buys(m, 2, 0, 2, 5);
         m.setWater(1, 9, 3);
@@ -678,7 +705,7 @@ public final class PromiseTests {
         m.pass(1);
         m.leaveIn(0, 1);
         m.pass(1);
-        int[] due = {2, 2, 5, 2, 1, 347, 17, 2, 10, 2, 1, 2};
+        int[] due = {2, 2, 6, 2, 1, 347, 17, 2, 10, 2, 1, 2};
         for (int what = 0; what < due.length; what++) {
             is("count(" + what + ")", due[what], m.count(what));
         }
@@ -706,6 +733,8 @@ public final class PromiseTests {
         is("row before the wake", 0, drifting.foresee(0, 1, 2));
         is("row behind the wake", 1, drifting.foresee(0, 2, 2));
         is("row behind the next wake", 0, drifting.foresee(0, 26, 2));
+        drifting.setWater(1, 9, 1);
+        is("a rope that holds", 0, drifting.foresee(0, 150, 2));
         for (int steps : new int[] {0, -1, 151, Integer.MIN_VALUE, Integer.MAX_VALUE}) {
             refused(m, "steps " + steps, ARGUMENT, () -> m.foresee(0, steps, 0));
         }
