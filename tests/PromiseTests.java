@@ -507,15 +507,18 @@ public final class PromiseTests {
 
     private static void passOrder() {
         promise = "14 pass, trading by numbers";
-        FloatMarket up = market(3);
-        fill(up, 0, 3);
-        sells(up, 0, 0, 1, 2);
-        up.offer(1, 0, 3, 0, 0);
-        up.load(1, 1, 1);
-        up.offer(1, 0, 0, 1, 2);
-        up.offer(2, 0, 0, 1, 9);
-        is("the smaller number buys first", 1, up.pass(1));
-        is("one sale in all", 1, up.good(1, 0, 0));
+        FloatMarket rivals = market(3);
+        for (int i = 0; i < 3; i++) {
+            rivals.addCanoe(100, 9);
+        }
+        for (int canoe : new int[] {2, 0, 1}) {
+            rivals.moor(canoe, 0);
+        }
+        sells(rivals, 0, 0, 1, 2);
+        buys(rivals, 1, 0, 1, 2);
+        buys(rivals, 2, 0, 1, 9);
+        is("one is sold", 1, rivals.pass(1));
+        is("the smaller number buys first", 1, rivals.good(1, 0, 0));
         FloatMarket chain = new FloatMarket();
         chain.addRow(3);
         for (int i = 0; i < 3; i++) {
