@@ -7,8 +7,9 @@ import java.util.List;
  * asks every canoe whether it is beside another.
  */
 public final class ReferenceTests {
-    private static final int RUNS = 1500;
-    private static final int CALLS = 400;
+    private static final int RUNS = 2000;
+    /** Each is followed by one of digest(): an object is used for at most 512. */
+    private static final int CALLS = 256;
 
     private static long seed = 20261119L;
     private static int wrong = 0;
